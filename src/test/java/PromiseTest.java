@@ -327,6 +327,13 @@ public final class PromiseTest {
         DUE.fraction("14 by the text", 1, 1, x.step(7, 7, 0), x.step(7, 7, 1));
         x.set(2, 1);
         DUE.fraction("14 by the learner", 2, 3, x.step(7, 1, 0), x.step(7, 1, 1));
+        // only the three sayings of 7, in six orders, bring one to 7: 6 * 11 * 11 * 11 of 36 * 36 * 36
+        TaughtTongues y = with(1, 3, 0);
+        DUE.fraction("14 three sayings", 1331, 7776, y.step(7, 7, 0), y.step(7, 7, 1));
+        // four sayings without slips: 36 of 81 rows have all three meanings
+        TaughtTongues z = with(0, 4, 0);
+        DUE.fraction("14 four sayings", 4, 9, z.step(7, 7, 0), z.step(7, 7, 1));
+        DUE.fraction("14 four sayings", 14, 81, z.step(7, 6, 0), z.step(7, 6, 1));
         DUE.is("14 from 8", LOST - 1, x.step(8, 0, 0));
         DUE.is("14 to -1", LOST - 1, x.step(0, -1, 7));
         DUE.is("14 part -1", LOST - 2, x.step(0, 0, -1));
@@ -357,6 +364,16 @@ public final class PromiseTest {
         // 0 stays by 33/36; 1, 2, 4 come by 1/36 each and go back by 23/36
         DUE.fraction("16 two lives", 193, 216, x.after(0, 2, 0, 0), x.after(0, 2, 0, 1));
         DUE.fraction("16 to one that none comes to", 0, 1, x.after(7, 4, 7, 0), x.after(7, 4, 7, 1));
+        DUE.fraction("16 ahead of a change", 1, 36, x.after(0, 1, 1, 0), x.after(0, 1, 1, 1));
+        x.weight(0, 4);
+        DUE.fraction("16 by the weight of now", 1, 18, x.after(0, 1, 1, 0), x.after(0, 1, 1, 1));
+        x.set(0, 0);
+        DUE.fraction("16 by the slip of now", 0, 1, x.after(0, 1, 1, 0), x.after(0, 1, 1, 1));
+        sayAll(x, "100:9");
+        x.before();
+        DUE.fraction("16 by the text of now", 1, 3, x.after(0, 1, 1, 0), x.after(0, 1, 1, 1));
+        x.set(2, 1);
+        DUE.fraction("16 by the learner of now", 0, 1, x.after(0, 1, 1, 0), x.after(0, 1, 1, 1));
         x.set(1, 2);
         DUE.holds("16 hears 2, k 4 is eight", x.after(0, 4, 0, 0) > 0);
         x.set(1, 3);
@@ -378,6 +395,12 @@ public final class PromiseTest {
         DUE.is("17 leads(0)", 1, x.leads(0));
         DUE.is("17 leads(7)", 128 + 16 + 4 + 2 + 1, x.leads(7));
         DUE.is("17 leads(3)", 8 + 4 + 2 + 1, x.leads(3));
+        TaughtTongues y = withText("011:9");
+        y.set(0, 0);
+        y.set(1, 1);
+        DUE.is("17 from 1 to 6 by way of 0 alone", 64 + 2 + 1, y.leads(1));
+        DUE.is("17 from 6 nowhere", 64, y.leads(6));
+        DUE.is("17 of a new object", 127, new TaughtTongues().leads(0));
         x.set(0, 1);
         DUE.is("17 by slips, and itself by 0 lives", 32 + 16 + 4 + 2 + 1, x.leads(5));
         x.set(1, 3);
