@@ -34,24 +34,10 @@ public final class PromiseTest {
         DUE.end();
     }
 
-    private static void sayAll(TaughtTongues x, String text) {
-        for (int i = 0; i < text.length(); i++) {
-            x.say(text.charAt(i));
-        }
-    }
-
     private static TaughtTongues withText(String text) {
         TaughtTongues x = new TaughtTongues();
-        sayAll(x, text);
+        Given.sayAll(x, text);
         DUE.is("before() of " + text, (text.length() + 1) / 6, x.before());
-        return x;
-    }
-
-    private static TaughtTongues with(int slip, int hears, int learner) {
-        TaughtTongues x = new TaughtTongues();
-        x.set(0, slip);
-        x.set(1, hears);
-        x.set(2, learner);
         return x;
     }
 
@@ -122,19 +108,19 @@ public final class PromiseTest {
     private static void promise5Wipe() {
         TaughtTongues x = new TaughtTongues();
         DUE.is("5 wipe of none", 0, x.wipe());
-        sayAll(x, "abc");
+        Given.sayAll(x, "abc");
         DUE.is("5 wipe", 3, x.wipe());
         DUE.is("5 told", 0, x.told(3));
         DUE.is("5 wipe again", 0, x.wipe());
         TaughtTongues y = withText("***:7");
-        sayAll(y, "000:1");
+        Given.sayAll(y, "000:1");
         DUE.is("5 wipe", 5, y.wipe());
         DUE.is("5 the text beforehand stays", 7, y.number(0));
     }
 
     private static void faultOf(String text, int want) {
         TaughtTongues x = new TaughtTongues();
-        sayAll(x, text);
+        Given.sayAll(x, text);
         DUE.is("6 fault of " + text, want, x.fault());
         DUE.is("6 fault leaves the signs", text.length(), x.told(3));
         int lines = (text.length() + 1) / 6;
@@ -173,12 +159,12 @@ public final class PromiseTest {
         DUE.is("7 signs are empty", 0, x.told(3));
         DUE.is("7 before of none", NO, x.before());
         DUE.is("7 number stays", 4, x.number(1));
-        sayAll(x, "***:0");
+        Given.sayAll(x, "***:0");
         DUE.is("7 before with a fault", NO, x.before());
         DUE.is("7 signs stay", 5, x.told(3));
         DUE.is("7 number stays", 7, x.number(4));
         x.wipe();
-        sayAll(x, "000:3");
+        Given.sayAll(x, "000:3");
         DUE.is("7 a new text", 1, x.before());
         DUE.is("7 number 0", 3, x.number(0));
         DUE.is("7 the old text is gone", 1, x.number(1));
@@ -310,7 +296,7 @@ public final class PromiseTest {
     }
 
     private static void promise14Step() {
-        TaughtTongues x = with(1, 1, 0);
+        TaughtTongues x = Given.with(1, 1, 0);
         DUE.fraction("14 step(0, 0)", 11, 12, x.step(0, 0, 0), x.step(0, 0, 1));
         DUE.fraction("14 step(0, 1)", 1, 36, x.step(0, 1, 0), x.step(0, 1, 1));
         DUE.fraction("14 step(0, 3)", 0, 1, x.step(0, 3, 0), x.step(0, 3, 1));
@@ -322,16 +308,16 @@ public final class PromiseTest {
         DUE.fraction("14 no slip", 1, 1, x.step(0, 0, 0), x.step(0, 0, 1));
         x.hear(0, 1);
         DUE.fraction("14 what is heard plays no part", 1, 1, x.step(0, 0, 0), x.step(0, 0, 1));
-        sayAll(x, "111:9");
+        Given.sayAll(x, "111:9");
         x.before();
         DUE.fraction("14 by the text", 1, 1, x.step(7, 7, 0), x.step(7, 7, 1));
         x.set(2, 1);
         DUE.fraction("14 by the learner", 2, 3, x.step(7, 1, 0), x.step(7, 1, 1));
         // only the three sayings of 7, in six orders, bring one to 7: 6 * 11 * 11 * 11 of 36 * 36 * 36
-        TaughtTongues y = with(1, 3, 0);
+        TaughtTongues y = Given.with(1, 3, 0);
         DUE.fraction("14 three sayings", 1331, 7776, y.step(7, 7, 0), y.step(7, 7, 1));
         // four sayings without slips: 36 of 81 rows have all three meanings
-        TaughtTongues z = with(0, 4, 0);
+        TaughtTongues z = Given.with(0, 4, 0);
         DUE.fraction("14 four sayings", 4, 9, z.step(7, 7, 0), z.step(7, 7, 1));
         DUE.fraction("14 four sayings", 14, 81, z.step(7, 6, 0), z.step(7, 6, 1));
         DUE.is("14 from 8", LOST - 1, x.step(8, 0, 0));
@@ -341,14 +327,14 @@ public final class PromiseTest {
     }
 
     private static void promise15Book() {
-        TaughtTongues x = with(1, 1, 0);
+        TaughtTongues x = Given.with(1, 1, 0);
         x.weight(0, 4);
         DUE.fraction("15 all by the book", 11, 18, x.book(7, 1, 0, 1, 0), x.book(7, 1, 0, 1, 1));
         DUE.fraction("15 none by the book", 1, 18, x.book(7, 0, 0, 1, 0), x.book(7, 0, 0, 1, 1));
         DUE.is("15 b 2 of 1", LOST - 2, x.book(7, 2, 0, 1, 0));
         x.set(1, 2);
         DUE.is("15 b 2 of 2", x.step(7, 1, 0), x.book(7, 2, 0, 1, 0));
-        TaughtTongues y = with(0, 2, 0);
+        TaughtTongues y = Given.with(0, 2, 0);
         y.weight(0, 2);
         DUE.fraction("15 1 and 2 together", 1, 8, y.book(1, 1, 2, 3, 0), y.book(1, 1, 2, 3, 1));
         DUE.is("15 book 8", LOST - 1, x.book(8, 9, 0, 0, 9));
@@ -359,7 +345,7 @@ public final class PromiseTest {
     }
 
     private static void promise16After() {
-        TaughtTongues x = with(1, 1, 0);
+        TaughtTongues x = Given.with(1, 1, 0);
         DUE.fraction("16 one life", 11, 12, x.after(0, 1, 0, 0), x.after(0, 1, 0, 1));
         // 0 stays by 33/36; 1, 2, 4 come by 1/36 each and go back by 23/36
         DUE.fraction("16 two lives", 193, 216, x.after(0, 2, 0, 0), x.after(0, 2, 0, 1));
@@ -369,7 +355,7 @@ public final class PromiseTest {
         DUE.fraction("16 by the weight of now", 1, 18, x.after(0, 1, 1, 0), x.after(0, 1, 1, 1));
         x.set(0, 0);
         DUE.fraction("16 by the slip of now", 0, 1, x.after(0, 1, 1, 0), x.after(0, 1, 1, 1));
-        sayAll(x, "100:9");
+        Given.sayAll(x, "100:9");
         x.before();
         DUE.fraction("16 by the text of now", 1, 3, x.after(0, 1, 1, 0), x.after(0, 1, 1, 1));
         x.set(2, 1);
@@ -391,7 +377,7 @@ public final class PromiseTest {
     }
 
     private static void promise17Leads() {
-        TaughtTongues x = with(0, 1, 0);
+        TaughtTongues x = Given.with(0, 1, 0);
         DUE.is("17 leads(0)", 1, x.leads(0));
         DUE.is("17 leads(7)", 128 + 16 + 4 + 2 + 1, x.leads(7));
         DUE.is("17 leads(3)", 8 + 4 + 2 + 1, x.leads(3));
@@ -411,10 +397,10 @@ public final class PromiseTest {
     }
 
     private static void promise18Lasts() {
-        TaughtTongues x = with(0, 1, 0);
+        TaughtTongues x = Given.with(0, 1, 0);
         lastsAre("no slip", x, 1, 1, 1);
-        lastsAre("slips", with(1, 1, 0), 16 + 4 + 2 + 1, 1, 0);
-        lastsAre("slips, three", with(1, 3, 0), 255, 1, 0);
+        lastsAre("slips", Given.with(1, 1, 0), 16 + 4 + 2 + 1, 1, 0);
+        lastsAre("slips, three", Given.with(1, 3, 0), 255, 1, 0);
         TaughtTongues two = withText("000:9;111:9");
         two.set(0, 0);
         two.set(1, 1);
@@ -436,7 +422,7 @@ public final class PromiseTest {
     }
 
     private static void promise19Lives() {
-        TaughtTongues x = with(1, 1, 0);
+        TaughtTongues x = Given.with(1, 1, 0);
         DUE.fraction("19 form 1", 1, 36, x.lives(0, 0, 1, 1, 0), x.lives(0, 0, 1, 1, 1));
         DUE.fraction("19 form 0", 35, 36, x.lives(0, 0, 0, 1, 0), x.lives(0, 0, 0, 1, 1));
         x.set(0, 0);
@@ -454,7 +440,7 @@ public final class PromiseTest {
     }
 
     private static void promise20Often() {
-        TaughtTongues x = with(0, 1, 0);
+        TaughtTongues x = Given.with(0, 1, 0);
         // its form 1 is kept by weight / (weight + 2): 4, 6, 7.2, 8 twelfths
         DUE.is("20 h 0", 1, x.often(7, 0, 0));
         DUE.is("20 h 4", 1, x.often(7, 0, 4));
@@ -510,7 +496,7 @@ public final class PromiseTest {
     }
 
     private static void promise22Back() {
-        TaughtTongues x = with(0, 1, 0);
+        TaughtTongues x = Given.with(0, 1, 0);
         // to 0: from 0 by 1, from 1, 2, 4 by 2/3, from 3, 5, 6 by 1/3: 4 in all
         DUE.fraction("22 was 0", 1, 4, x.back(0, 1, 0, 0), x.back(0, 1, 0, 1));
         DUE.fraction("22 was 2", 1, 6, x.back(0, 1, 2, 0), x.back(0, 1, 2, 1));
@@ -530,7 +516,7 @@ public final class PromiseTest {
     }
 
     private static void promise23Guess() {
-        TaughtTongues x = with(0, 1, 0);
+        TaughtTongues x = Given.with(0, 1, 0);
         DUE.is("23 guess(0)", 0, x.guess(0, 1, 0));
         DUE.is("23 the least of several", 1, x.guess(1, 1, 0));
         DUE.is("23 the least of several", 4, x.guess(4, 2, 0));
@@ -553,7 +539,7 @@ public final class PromiseTest {
     }
 
     private static void promise24Told() {
-        TaughtTongues x = with(5, 3, 2);
+        TaughtTongues x = Given.with(5, 3, 2);
         x.say(40);
         x.say(41);
         x.hear(0, 0);

@@ -2,12 +2,29 @@
 public final class Due {
     private int asked = 0;
     private int wrong = 0;
+    private String sentence = "";
+    private int askedAhead = 0;
+
+    /** The answers from here on are due by this sentence of the document. */
+    public void sentence(String words) {
+        lookAtLast();
+        sentence = "[" + words + "] ";
+        askedAhead = asked;
+    }
+
+    /** A sentence that nothing was asked of would be one without a test. */
+    private void lookAtLast() {
+        if (!sentence.isEmpty() && asked == askedAhead) {
+            wrong++;
+            System.out.println(sentence + "has no test");
+        }
+    }
 
     public void is(String call, long want, long got) {
         asked++;
         if (got != want) {
             wrong++;
-            System.out.println(call + " answered " + got + ", due is " + want);
+            System.out.println(sentence + call + " answered " + got + ", due is " + want);
         }
     }
 
@@ -26,6 +43,7 @@ public final class Due {
     }
 
     public void end() {
+        lookAtLast();
         System.out.println(wrong == 0 ? "all " + asked + " answers are as due" : wrong + " answers are not as due");
         if (wrong != 0) {
             System.exit(1);
