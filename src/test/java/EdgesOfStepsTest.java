@@ -124,6 +124,12 @@ public final class EdgesOfStepsTest {
         TaughtTongues x = Given.with(0, 3, 0);
         Given.hearAll(x, 0, 0, 0, 0, 0, 0, 0, 0, 0, 0, 0, 0);
         stepsOfSeven(x, 2, 9, 2, 9, 1, 27);
+        DUE.fraction("book(7, 1, 7, 7)", 2, 9, x.book(7, 1, 7, 7, 0), x.book(7, 1, 7, 7, 1));
+        DUE.fraction("after(7, 1, 7)", 2, 9, x.after(7, 1, 7, 0), x.after(7, 1, 7, 1));
+        DUE.fraction("lives(7, 0, 1, 1)", 19, 27, x.lives(7, 0, 1, 1, 0), x.lives(7, 0, 1, 1, 1));
+        DUE.fraction("back(7, 1, 7)", 1, 1, x.back(7, 1, 7, 0), x.back(7, 1, 7, 1));
+        DUE.is("often(7, 0, 8)", 1, x.often(7, 0, 8));
+        DUE.is("leads(7)", 255, x.leads(7));
         DUE.is("HEARD stays", 6, x.told(4));
     }
 

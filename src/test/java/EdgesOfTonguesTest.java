@@ -316,8 +316,8 @@ public final class EdgesOfTonguesTest {
     private static void fullChangesNothing() {
         DUE.sentence("4 FULL: They change nothing");
         TaughtTongues x = Given.signs(FORTY);
-        DUE.is("say of x", FULL, x.say('x'));
         DUE.is("say of 1", FULL, x.say('1'));
+        DUE.is("say of x", FULL, x.say('x'));
         DUE.is("fault(): neither the first nor the last sign is another", 40, x.fault());
         DUE.is("wipe()", 40, x.wipe());
     }
