@@ -4,8 +4,11 @@ import java.lang.reflect.Modifier;
 import java.nio.file.Files;
 import java.nio.file.Path;
 import java.util.Arrays;
+import java.util.List;
 import java.util.Set;
 import java.util.TreeSet;
+import java.util.regex.Matcher;
+import java.util.regex.Pattern;
 
 /** The public face is the document's, no more and no less; the source has nothing that LANGUAGE.md rules out. */
 public final class FaceTest {
@@ -25,6 +28,9 @@ public final class FaceTest {
         "\\w+Exact\\b", "\\bstatic\\s*\\{", "\\bpackage\\b", "\\bObject\\b", "\\bvar\\b", "\\bnative\\b", "\\bSystem\\.(?!arraycopy)",
         "\\bMath\\.random\\b", "\\bthread", "\\bprotected\\b", "@",
     };
+
+    private static final List<String> CONSTANT_TYPES = List.of("int", "long", "boolean", "char", "String",
+        "int[]", "long[]", "char[]", "byte[]");
 
     public static void main(String[] args) throws Exception {
         faceIsTheDocuments();
@@ -63,12 +69,45 @@ public final class FaceTest {
             int modifiers = each.getModifiers();
             DUE.holds(each + " is static", Modifier.isStatic(modifiers) || each.isInterface());
             DUE.holds(each + " is not public", !Modifier.isPublic(modifiers) && !Modifier.isProtected(modifiers));
+            DUE.is(each + " has no classes inside", 0, each.getDeclaredClasses().length);
+            methodsKeepToTheRules(each);
+            fieldsKeepToTheRules(each);
         }
-        for (Method method : TaughtTongues.class.getDeclaredMethods()) {
+        methodsKeepToTheRules(TaughtTongues.class);
+        fieldsKeepToTheRules(TaughtTongues.class);
+    }
+
+    private static void methodsKeepToTheRules(Class<?> each) {
+        for (Method method : each.getDeclaredMethods()) {
             boolean isFace = Arrays.stream(CALLS).anyMatch(call -> call.split(" ")[1].equals(method.getName()));
-            DUE.holds(method + ": no private one has a public one's name", Modifier.isPublic(method.getModifiers()) == isFace);
+            DUE.holds(method + ": no other one has a public one's name", Modifier.isPublic(method.getModifiers()) == isFace);
             DUE.holds(method + ": at most seven parameters", method.getParameterCount() <= 7);
         }
+    }
+
+    private static void fieldsKeepToTheRules(Class<?> each) {
+        int own = 0;
+        for (Field field : each.getDeclaredFields()) {
+            if (Modifier.isStatic(field.getModifiers())) {
+                DUE.holds(field + " is final", Modifier.isFinal(field.getModifiers()));
+                DUE.holds(field + " is a constant", CONSTANT_TYPES.contains(field.getType().getSimpleName()));
+            } else {
+                own++;
+            }
+        }
+        DUE.holds(each + " has at most twenty fields", own <= 20);
+    }
+
+    /** By the source's own form: a method's first line and its last have the same indent, and no line between. */
+    private static void methodsAreShort(String source) {
+        Matcher method = Pattern.compile("(?m)^( +)[\\w\\[\\] ]+\\([^\\n]*\\) \\{\\n((?:\\1 [^\\n]*\\n|\\n)*)\\1\\}").matcher(source);
+        int count = 0;
+        while (method.find()) {
+            long lines = method.group(2).lines().count() + 2;
+            DUE.holds(method.group().lines().findFirst().get() + " has " + lines + " lines", lines <= 60);
+            count++;
+        }
+        DUE.holds("methods are found: " + count, count > CALLS.length);
     }
 
     private static void sourceKeepsToTheRules() throws Exception {
@@ -77,6 +116,7 @@ public final class FaceTest {
         for (String pattern : RULED_OUT) {
             DUE.holds("no " + pattern, code.replaceAll(pattern, "").length() == code.length());
         }
+        methodsAreShort(code);
         String imports = code.replaceAll("import java\\.util\\.(Arrays|ArrayList|List|Iterator);", "");
         DUE.holds("no other import", !imports.contains("import "));
         DUE.holds("only plain signs", source.chars().allMatch(sign -> sign == '\n' || sign >= 32 && sign < 127));
